@@ -102,7 +102,7 @@ public final class MeaningTypes {
         if (back) {
             return SECOND_IN_FIRST;
         }
-        return meanings.someLiesIn(1 << a | 1 << b, 0) ? CROSSING : APART;
+        return meanings.someLiesIn((1 << a) | (1 << b), 0) ? CROSSING : APART;
     }
 
     public boolean answers(int a, int b, int c) {
@@ -196,7 +196,7 @@ public final class MeaningTypes {
     }
 
     private static boolean holds(int profile, int t) {
-        return (profile >> t & 1) != 0;
+        return ((profile >> t) & 1) != 0;
     }
 
     /** A set of profiles, or of other rows of one bit for each type. */
@@ -213,7 +213,7 @@ public final class MeaningTypes {
         }
 
         private static int wordsFor(int bits) {
-            return (1 << bits) + 63 >> 6;
+            return ((1 << bits) + 63) >> 6;
         }
 
         /** Takes all members away; those that come have the given number of bits. */
@@ -232,16 +232,17 @@ public final class MeaningTypes {
         }
 
         boolean has(int member) {
-            return member >= 0 && member < end && (words[member >> 6] >> (member & 63) & 1L) != 0L;
+            return member >= 0 && member < end && ((words[member >> 6] >> (member & 63)) & 1L) != 0L;
         }
 
         /** The least member that is not below start, which is not below 0. */
         int nextFrom(int start) {
             int startWord = start >> 6;
             for (int w = startWord; w < usedWords; w++) {
-                long rest = w == startWord ? words[w] & -1L << (start & 63) : words[w];
+                long rest = w == startWord ? words[w] & (-1L << (start & 63)) : words[w];
                 if (rest != 0L) {
-                    return (w << 6) + Long.bitCount(rest - 1L & ~rest);
+                    // The zeros below the lowest one of rest, turned into ones and counted.
+                    return (w << 6) + Long.bitCount((rest - 1L) & ~rest);
                 }
             }
             return end;
