@@ -11,7 +11,7 @@ import java.util.Random;
  */
 public final class ReferenceTest {
 
-    private static final int RUNS = 1500;
+    private static final int RUNS = 2500;
     private static final int CALLS = 512;
 
     private static int wrong = 0;
@@ -325,9 +325,10 @@ public final class ReferenceTest {
             MeaningTypes x = new MeaningTypes();
             Reference r = new Reference();
             int makers = random.nextInt(3);
-            for (int call = 0; call < CALLS; call++) {
+            for (int call = 1; call < CALLS; call++) {
                 oneCall(random, x, r, run, makers);
             }
+            due(run, "types at the end", x.types(), r.types.size());
         }
         dearCallsEnd();
         System.out.println(wrong == 0 ? "ReferenceTest: all answers are as due" : "ReferenceTest: " + wrong + " wrong");
@@ -352,7 +353,6 @@ public final class ReferenceTest {
             int n = r.types.size() - random.nextInt(8) + 1;
             due(run, "cut " + n, x.cut(n), r.cut(n));
         }
-        due(run, "types", x.types(), r.types.size());
     }
 
     private static void makeType(Random random, MeaningTypes x, Reference r, int run) {
@@ -383,10 +383,11 @@ public final class ReferenceTest {
         int a = number(random, r.types.size());
         int b = number(random, r.types.size());
         int c = number(random, r.types.size());
-        switch (random.nextInt(4)) {
+        switch (random.nextInt(5)) {
             case 0: due(run, "empty", x.empty(a), r.has(a) && r.isEmpty(new Literals().in(r.types.get(a)))); break;
             case 1: due(run, "within", x.within(a, b), r.has(a) && r.has(b) && r.lies(r.types.get(a), r.types.get(b))); break;
             case 2: due(run, "compare", x.compare(a, b), r.compare(a, b)); break;
+            case 3: due(run, "types", x.types(), r.types.size()); break;
             default: due(run, "answers", x.answers(a, b, c), r.answers(a, b, c)); break;
         }
     }
@@ -424,12 +425,17 @@ public final class ReferenceTest {
             x.constants(21);
             x.constants(38);
             x.constants(56);
-            for (int call = 0; call < CALLS; call++) {
-                for (int t = x.cut(3 + call % 8); t < 12; t++) {
-                    int a = t * 5 % Math.min(t, 7);
-                    int b = t * 3 % Math.min(t, 7);
-                    due(-1, "a dear type", t < 12 - arrows ? x.product(a, b) : x.arrow(b, a), t);
+            int t = 3;
+            for (int call = 3; call < CALLS; call++) {
+                if (t == 12) {
+                    t = 3 + call % 8;
+                    due(-1, "a cut", x.cut(t), t);
+                    continue;
                 }
+                int a = t * 5 % Math.min(t, 7);
+                int b = t * 3 % Math.min(t, 7);
+                due(-1, "a dear type", t < 12 - arrows ? x.product(a, b) : x.arrow(b, a), t);
+                t++;
             }
         }
     }
