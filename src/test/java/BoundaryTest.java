@@ -222,6 +222,7 @@ public final class BoundaryTest {
     private static void sentencesOnElements() {
         sentence("ELEMENTS are the constants 0 .. 5", BoundaryTest::theConstantsAreSix);
         sentence("a finite set (maybe with nothing in it) of STEPS", BoundaryTest::aFunctionMayHaveNoStep);
+        sentence("FUNCTIONS, each a finite set of STEPS", BoundaryTest::aFunctionMayHaveManySteps);
         sentence("from an element to an element or to FAILURE", BoundaryTest::aStepMayFail);
         sentence("(also several from one element)", BoundaryTest::oneElementMayHaveSeveralSteps);
     }
@@ -254,6 +255,34 @@ public final class BoundaryTest {
         due("it lies in another arrow", x.compare(5, 7), 1);
         x.not(6);
         due("it is in no complement of an arrow", x.compare(5, 8), 4);
+    }
+
+    private static void aFunctionMayHaveManySteps() {
+        MeaningTypes x = new MeaningTypes();
+        x.constants(0);
+        x.arrow(0, 0);
+        x.constants(1);
+        x.constants(2);
+        x.product(2, 3);
+        x.arrow(1, 0);
+        x.arrow(2, 0);
+        x.arrow(3, 0);
+        x.arrow(4, 0);
+        x.union(5, 6);
+        due("steps from a function and a constant", x.compare(9, 1), 1);
+        x.union(9, 7);
+        due("and from another constant", x.compare(10, 1), 1);
+        x.union(10, 8);
+        due("and from a pair", x.compare(11, 1), 1);
+        MeaningTypes y = withFlatTypes();
+        y.arrow(1, 4);
+        y.arrow(3, 4);
+        y.arrow(2, 4);
+        y.union(5, 7);
+        y.arrow(0, 0);
+        due("two steps that share an arrow which they break", y.compare(8, 9), 1);
+        y.meet(5, 7);
+        due("which is just their common one", y.compare(10, 6), 3);
     }
 
     private static void aStepMayFail() {

@@ -8,6 +8,10 @@ import java.util.Random;
  * <p>With at most two arrows, and parts of products and arrows that are of depth 0, the elements
  * below are enough to tell any two types apart: a function is outside of an arrow by one step, and
  * a step matters only by where its ends lie in types of depth 0.
+ *
+ * <p>With four arrows, a function may need four steps to be outside of all: there it is asked for
+ * each arrow that should not have the function whether a single step keeps it out of that one and
+ * out of none that should have it; the function of these steps is then the one that is looked for.
  */
 public final class ElementsTest {
 
@@ -15,6 +19,7 @@ public final class ElementsTest {
     private static final int FAILURE = -1;
 
     private static final List<Element> SIMPLE = new ArrayList<>();
+    private static final List<Element> ONE_STEP = new ArrayList<>();
     private static final List<Element> ALL = new ArrayList<>();
 
     private static int wrong = 0;
@@ -46,6 +51,8 @@ public final class ElementsTest {
         Random random = new Random(20261115L);
         for (int run = 0; run < RUNS; run++) {
             tryTypes(random, run);
+            trySigns(random, run, "arrow");
+            trySigns(random, run, "product");
         }
         System.out.println(wrong == 0 ? "ElementsTest: all answers are as due" : "ElementsTest: " + wrong + " wrong");
         if (wrong != 0) {
@@ -73,18 +80,17 @@ public final class ElementsTest {
     }
 
     private static void addFunctions() {
-        List<Element> steps = new ArrayList<>();
         for (Element from : SIMPLE) {
             for (Element to : SIMPLE) {
-                steps.add(functionOf(from, to));
+                ONE_STEP.add(functionOf(from, to));
             }
-            steps.add(functionOf(from, null));
+            ONE_STEP.add(functionOf(from, null));
         }
         ALL.add(functionOf());
-        for (int i = 0; i < steps.size(); i++) {
+        for (int i = 0; i < ONE_STEP.size(); i++) {
             for (int j = 0; j <= i; j++) {
-                Element s = steps.get(i);
-                Element t = steps.get(j);
+                Element s = ONE_STEP.get(i);
+                Element t = ONE_STEP.get(j);
                 ALL.add(functionOf(s.starts.get(0), s.ends.get(0), t.starts.get(0), t.ends.get(0)));
             }
         }
@@ -204,6 +210,83 @@ public final class ElementsTest {
                 due(run, "compare " + a + " " + b + " is " + want, x.compare(a, b) == want, true);
             }
         }
+    }
+
+    /** Types 0: nothing, 1: all functions or pairs, 2 .. 4: of depth 0, 5 .. 8: four arrows or products. */
+    private static void trySigns(Random random, int run, String kind) {
+        MeaningTypes x = new MeaningTypes();
+        List<Type> types = new ArrayList<>();
+        boolean ofArrows = kind.equals("arrow");
+        make(x, types, ofArrows ? new Type("constants", 0, 0) : new Type("any", 0, 0));
+        make(x, types, new Type(kind, 0, 0));
+        for (int t = 2; t < 5; t++) {
+            boolean alone = random.nextInt(3) != 0;
+            make(x, types, new Type("constants", alone ? 1 << t : random.nextInt(64), 0));
+        }
+        for (int t = 5; t < 9; t++) {
+            make(x, types, new Type(kind, random.nextInt(random.nextInt(2) == 0 ? t - 3 : 5), random.nextInt(5)));
+        }
+        for (int inside = 0; inside < 16; inside++) {
+            x.cut(9);
+            int all = chain(x, inside, true);
+            int some = chain(x, 15 & ~inside, false);
+            boolean found = ofArrows ? hasFunction(types, inside) : hasPair(types, inside);
+            if (inside == 15) {
+                due(run, kind + "s, empty", x.empty(all), !found);
+            } else {
+                due(run, kind + "s, signs " + inside, x.within(inside == 0 ? 1 : all, some), !found);
+            }
+        }
+    }
+
+    /** The intersection or the union of the types 5 + i for the bits i of chosen; -1 for none. */
+    private static int chain(MeaningTypes x, int chosen, boolean asMeet) {
+        int made = -1;
+        for (int i = 0; i < 4; i++) {
+            if ((chosen >> i & 1) == 1) {
+                int t = 5 + i;
+                made = made < 0 ? t : asMeet ? x.meet(made, t) : x.union(made, t);
+            }
+        }
+        return made;
+    }
+
+    /** Whether some function is in the arrows of the bits of inside, and in none of the others. */
+    private static boolean hasFunction(List<Type> types, int inside) {
+        for (int i = 0; i < 4; i++) {
+            if ((inside >> i & 1) == 0 && !hasStepAgainst(types, i, inside)) {
+                return false;
+            }
+        }
+        return true;
+    }
+
+    private static boolean hasStepAgainst(List<Type> types, int i, int inside) {
+        for (Element step : ONE_STEP) {
+            if (!isIn(step, 5 + i, types) && (signs(step, types) & inside) == inside) {
+                return true;
+            }
+        }
+        return false;
+    }
+
+    private static boolean hasPair(List<Type> types, int inside) {
+        for (Element first : SIMPLE) {
+            for (Element second : SIMPLE) {
+                if (signs(pairOf(first, second), types) == inside) {
+                    return true;
+                }
+            }
+        }
+        return false;
+    }
+
+    private static int signs(Element e, List<Type> types) {
+        int found = 0;
+        for (int i = 0; i < 4; i++) {
+            found |= isIn(e, 5 + i, types) ? 1 << i : 0;
+        }
+        return found;
     }
 
     private static boolean lies(boolean[] a, boolean[] b) {

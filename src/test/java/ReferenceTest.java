@@ -16,6 +16,9 @@ public final class ReferenceTest {
 
     private static int wrong = 0;
 
+    /** Whether the run makes types from a few sets only, so that many of them are made of the same ones. */
+    private static boolean fewSets = false;
+
     private enum Kind { CONSTANTS, PRODUCT, ARROW, UNION, MEET, NOT, ANY }
 
     /** A type as the document tells it; sorts of values are such types, too, beside the numbered ones. */
@@ -325,16 +328,29 @@ public final class ReferenceTest {
             MeaningTypes x = new MeaningTypes();
             Reference r = new Reference();
             int makers = random.nextInt(3);
+            fewSets = run % 2 == 1;
             for (int call = 1; call < CALLS; call++) {
                 oneCall(random, x, r, run, makers);
             }
             due(run, "types at the end", x.types(), r.types.size());
+        }
+        for (int run = 0; run < RUNS; run++) {
+            mixedSigns(random, run);
         }
         dearCallsEnd();
         System.out.println(wrong == 0 ? "ReferenceTest: all answers are as due" : "ReferenceTest: " + wrong + " wrong");
         if (wrong != 0) {
             System.exit(1);
         }
+    }
+
+    private static int mask(Random random) {
+        return fewSets && random.nextInt(20) != 0 ? random.nextInt(4) : random.nextInt(68) - 2;
+    }
+
+    /** A part for a new type: in a run of few sets mostly one of the first types. */
+    private static int part(Random random, int count) {
+        return fewSets && random.nextInt(4) != 0 ? random.nextInt(Math.max(Math.min(count, 5), 1)) : number(random, count);
     }
 
     private static int number(Random random, int count) {
@@ -356,11 +372,11 @@ public final class ReferenceTest {
     }
 
     private static void makeType(Random random, MeaningTypes x, Reference r, int run) {
-        int a = number(random, r.types.size());
-        int b = number(random, r.types.size());
-        switch (r.types.size() < 2 ? random.nextInt(2) * 10 : random.nextInt(12)) {
+        int a = part(random, r.types.size());
+        int b = part(random, r.types.size());
+        switch (r.types.size() < (fewSets ? 4 : 2) ? random.nextInt(3) / 2 * 10 : random.nextInt(12)) {
             case 0: {
-                int mask = random.nextInt(68) - 2;
+                int mask = mask(random);
                 int want = mask < 0 || mask > 63 ? -1 : r.addType(Kind.CONSTANTS, mask, null, null);
                 due(run, "constants " + mask, x.constants(mask), want);
                 break;
@@ -376,6 +392,49 @@ public final class ReferenceTest {
             case 9: due(run, "meet", x.meet(a, b), r.make(Kind.MEET, a, b)); break;
             case 10: due(run, "any", x.any(), r.addType(Kind.ANY, 0, null, null)); break;
             default: due(run, "not", x.not(a), r.make(Kind.NOT, a, a)); break;
+        }
+    }
+
+    /**
+     * Few flat types, five arrows or products of them and of one another, and then, again and again,
+     * three types that mix those: whether an intersection of some lies in the union of others takes
+     * several steps of a function, or several splits of a product, to tell.
+     */
+    private static void mixedSigns(Random random, int run) {
+        MeaningTypes x = new MeaningTypes();
+        Reference r = new Reference();
+        due(run, "constants 0", x.constants(0), r.addType(Kind.CONSTANTS, 0, null, null));
+        for (int t = 1; t < 3; t++) {
+            int mask = random.nextInt(8);
+            due(run, "constants " + mask, x.constants(mask), r.addType(Kind.CONSTANTS, mask, null, null));
+        }
+        due(run, "any", x.any(), r.addType(Kind.ANY, 0, null, null));
+        for (int t = 4; t < 9; t++) {
+            int a = random.nextInt(random.nextInt(3) == 0 ? t : 4);
+            int b = random.nextInt(random.nextInt(3) == 0 ? t : 4);
+            if (random.nextInt(8) < run % 9) {
+                due(run, "arrow", x.arrow(a, b), r.make(Kind.ARROW, a, b));
+            } else {
+                due(run, "product", x.product(a, b), r.make(Kind.PRODUCT, a, b));
+            }
+        }
+        for (int round = 0; round < 50; round++) {
+            due(run, "cut 9", x.cut(9), r.cut(9));
+            for (int t = 9; t < 12; t++) {
+                int a = 3 + random.nextInt(t - 3);
+                int b = 3 + random.nextInt(t - 3);
+                switch (random.nextInt(5)) {
+                    case 0: due(run, "not", x.not(a), r.make(Kind.NOT, a, a)); break;
+                    case 1:
+                    case 2: due(run, "meet", x.meet(a, b), r.make(Kind.MEET, a, b)); break;
+                    default: due(run, "union", x.union(a, b), r.make(Kind.UNION, a, b)); break;
+                }
+            }
+            for (int question = 0; question < 5; question++) {
+                int a = 3 + random.nextInt(9);
+                int b = 9 + random.nextInt(3);
+                due(run, "compare " + a + " " + b, x.compare(a, b), r.compare(a, b));
+            }
         }
     }
 
